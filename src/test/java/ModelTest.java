@@ -1,15 +1,19 @@
+import java.util.Arrays;
+import java.util.Map;
 import java.util.Random;
+import java.util.TreeMap;
 
 /** Runs of calls by chance (always the same), each answered by the class and by the Model alike. */
 public final class ModelTest {
-    private static final int RUNS = 400;
+    private static final int RUNS = 500;
     private static final int CALLS = 250;
     private final Random random;
     private final TextMaker maker;
     private final AnswerSlices x = new AnswerSlices();
     private final Model m = new Model();
     private final StringBuilder told = new StringBuilder();
-    private static final int[] ANSWERED = new int[8];
+    private static final int[] FAULTS = new int[8];
+    private static final Map<String, int[]> ANSWERS = new TreeMap<>();
 
     private ModelTest(long seed) {
         random = new Random(seed);
@@ -19,13 +23,17 @@ public final class ModelTest {
     public static void main(String[] args) {
         for (int run = 0; run < RUNS && !Due.anyWrong(); run++) {
             ModelTest t = new ModelTest(run);
-            int before = 0;
-            for (int call = before; call < CALLS && !Due.anyWrong(); call++) t.step();
+            for (int call = 0; call < CALLS && !Due.anyWrong(); call++) t.step();
             if (Due.anyWrong()) System.out.println("run " + run + ":\n" + t.told);
         }
-        System.out.println("sound reads " + ANSWERED[0] + ", faults by code " + java.util.Arrays.toString(
-            java.util.Arrays.copyOfRange(ANSWERED, 1, 8)));
+        System.out.println("sound reads, then faults by code: " + Arrays.toString(FAULTS));
+        if (args.length > 0) tellAnswers();
         Due.done("ModelTest");
+    }
+
+    /** How often each call was answered, BAD, NONE, FULL, and refused by a FINDING. */
+    private static void tellAnswers() {
+        ANSWERS.forEach((call, times) -> System.out.println(call + " " + Arrays.toString(times)));
     }
 
     private int near(int n) {
@@ -43,6 +51,8 @@ public final class ModelTest {
 
     private void due(String call, long got, long want) {
         told.append(call).append(" -> ").append(got).append('\n');
+        int[] times = ANSWERS.computeIfAbsent(call.substring(0, call.indexOf('(')), x -> new int[5]);
+        times[want < -3 ? 4 : want < 0 ? (int) -want : 0]++;
         Due.due(call, got, want);
     }
 
@@ -103,7 +113,7 @@ public final class ModelTest {
         told.append(text).append('\n');
         due("read()", x.read(), m.read());
         due("fault()", x.fault(), m.fault());
-        ANSWERED[m.fault()]++;
+        FAULTS[m.fault()]++;
     }
 
     private void tellStep() {

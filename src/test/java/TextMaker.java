@@ -10,10 +10,13 @@ final class TextMaker {
     private final Random random;
     private final List<String> tokens = new ArrayList<>();
     private final List<String> names = new ArrayList<>();
+    /** Whether its texts FAIL often, so that a run of calls becomes FULL. */
+    private final boolean grim;
     private int runs;
 
     TextMaker(Random random) {
         this.random = random;
+        grim = random.nextInt(5) == 0;
     }
 
     String make() {
@@ -22,6 +25,8 @@ final class TextMaker {
         runs = 1;
         int statements = 1 + random.nextInt(random.nextInt(6) == 0 ? 18 : 9);
         for (int s = 0; s < statements; s++) statement(s);
+        if (random.nextInt(3) > 0) see();
+        if (random.nextInt(8) > 0) ask();
         if (random.nextInt(4) == 0) spoil();
         StringBuilder text = new StringBuilder();
         for (String token : tokens) {
@@ -64,20 +69,30 @@ final class TextMaker {
             add("let", name, "=");
             exp(0);
             names.add(name);
+            add(";");
         } else if (pick == 4) {
-            add("see");
-            exp(0);
+            see();
         } else {
-            add("ask");
-            exp(0);
+            ask();
         }
+    }
+
+    private void see() {
+        add("see");
+        exp(0);
+        add(";");
+    }
+
+    private void ask() {
+        add("ask");
+        exp(0);
         add(";");
     }
 
     private void coin() {
         String name = newName();
         int b = 1 + random.nextInt(random.nextInt(9) == 0 ? 13 : 6);
-        add("coin", name, "=", "" + random.nextInt(b + (random.nextInt(20) == 0 ? 3 : 1)), "of", "" + b);
+        add("coin", name, "=", "" + random.nextInt(b + (random.nextInt(20) == 0 ? 3 : 1)), "of", "" + b, ";");
         names.add(name);
         runs *= 2;
     }
@@ -86,7 +101,7 @@ final class TextMaker {
         String name = newName();
         int low = random.nextInt(5);
         int n = random.nextInt(random.nextInt(20) == 0 ? 10 : 64 / runs > 4 ? 4 : 2);
-        add("die", name, "=", "" + low, "to", "" + (low + n));
+        add("die", name, "=", "" + low, "to", "" + (low + n), ";");
         names.add(name);
         runs *= n + 1;
     }
@@ -116,13 +131,18 @@ final class TextMaker {
     }
 
     private void factor(int depth) {
-        int pick = random.nextInt(depth > 3 && random.nextInt(10) > 0 ? 10 : 20);
+        if (grim && random.nextInt(3) == 0) {
+            add("try", "fail", "1", "else");
+        } else if (depth == 0 && random.nextInt(80) == 0) {
+            for (int n = 5 + random.nextInt(5); n > 0; n--) add(random.nextInt(3) > 0 ? "-" : "fail");
+        }
+        int pick = random.nextInt(depth > 0 && random.nextInt(depth * 3) > 0 ? 10 : 20);
         if (pick < 7 && !names.isEmpty()) {
             add(names.get(random.nextInt(names.size())));
         } else if (pick < 10) {
-            add(random.nextInt(30) == 0 ? "zz" : "" + (random.nextInt(12) == 0 ? random.nextInt(1000000) : random.nextInt(4)));
+            add(random.nextInt(400) == 0 ? "zz" : "" + (random.nextInt(12) == 0 ? random.nextInt(1000000) : random.nextInt(4)));
         } else if (pick < 12) {
-            add("col", "" + random.nextInt(random.nextInt(30) == 0 ? 8 : 6), "[");
+            add("col", "" + random.nextInt(random.nextInt(60) == 0 ? 8 : 6), "[");
             exp(depth + 1);
             add("]");
         } else if (pick < 14) {
