@@ -86,7 +86,8 @@ public final class ModelTest {
             }
             case 2 -> due("share(" + c + ", " + o + ")", x.share(c, o), m.share(c, o));
             case 3 -> due("copy(" + c + ", " + o + ")", x.copy(c, o), m.copy(c, o));
-            case 4, 5 -> due("put(" + c + ", " + i + ", " + sort + ", " + v + ")", x.put(c, i, sort, v), m.put(c, i, sort, v));
+            case 4, 5 -> due("put(" + c + ", " + i + ", " + sort + ", " + v + ")",
+                x.put(c, i, sort, v), m.put(c, i, sort, v));
             case 6 -> due("get(" + c + ", " + i + ", " + sort + ")", x.get(c, i, sort), m.get(c, i, sort));
             default -> {
                 int what = near(3);
@@ -142,7 +143,8 @@ public final class ModelTest {
             case 8 -> due("apart(" + q + ", " + o + ")", x.apart(q, o), m.apart(q, o));
             case 9 -> due("same(" + q + ", " + v + ")", x.same(q, v), m.same(q, v));
             case 10 -> due("worth(" + q + ", " + v + ", " + see + ")", x.worth(q, v, see), m.worth(q, v, see));
-            case 11 -> due("sway(" + q + ", " + v + ", " + draw + ", " + a + ")", x.sway(q, v, draw, a), m.sway(q, v, draw, a));
+            case 11 -> due("sway(" + q + ", " + v + ", " + draw + ", " + a + ")",
+                x.sway(q, v, draw, a), m.sway(q, v, draw, a));
             default -> due("worst(" + q + ", " + v + ", " + draw + ", " + a + ", " + high + ")",
                 x.worst(q, v, draw, a, high), m.worst(q, v, draw, a, high));
         }

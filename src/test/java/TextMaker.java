@@ -32,7 +32,8 @@ final class TextMaker {
         for (String token : tokens) {
             boolean touching = text.length() > 0 && Character.isLetterOrDigit(text.charAt(text.length() - 1))
                 && Character.isLetterOrDigit(token.charAt(0));
-            if (touching ? random.nextInt(200) > 0 : random.nextInt(8) == 0) text.append(random.nextInt(9) == 0 ? '\n' : ' ');
+            boolean blank = touching ? random.nextInt(200) > 0 : random.nextInt(8) == 0;
+            if (blank) text.append(random.nextInt(9) == 0 ? '\n' : ' ');
             text.append(token);
         }
         return text.toString();
@@ -140,7 +141,8 @@ final class TextMaker {
         if (pick < 7 && !names.isEmpty()) {
             add(names.get(random.nextInt(names.size())));
         } else if (pick < 10) {
-            add(random.nextInt(400) == 0 ? "zz" : "" + (random.nextInt(12) == 0 ? random.nextInt(1000000) : random.nextInt(4)));
+            int number = random.nextInt(random.nextInt(12) == 0 ? 1000000 : 4);
+            add(random.nextInt(400) == 0 ? "zz" : "" + number);
         } else if (pick < 12) {
             add("col", "" + random.nextInt(random.nextInt(60) == 0 ? 8 : 6), "[");
             exp(depth + 1);

@@ -211,8 +211,8 @@ public final class TextsTest {
     }
 
     private static void faultsOfDepth() {
-        for (String opener : new String[] {"(", "-", "fail ", "col 0[", "if ", "try ", "if 1 then ", "if 1 then 1 else ",
-            "try 1 else "}) {
+        String[] openers = {"(", "-", "fail ", "col 0[", "if ", "try ", "if 1 then ", "if 1 then 1 else ", "try 1 else "};
+        for (String opener : openers) {
             String eight = "ask " + opener.repeat(8);
             int at = eight.length();
             faulty(eight + "(1", at, 7);

@@ -264,7 +264,8 @@ public final class WorkedTest {
     /** 64 RUNS with 15 FINDINGS each: 960 a call. */
     private static void full() {
         String five = "try 1/0 else try 1/0 else try 1/0 else try 1/0 else 1/0;";
-        AnswerSlices x = Due.of("die d=0 to 7;die e=0 to 7;let a=" + five + "let b=" + five + "see 1;ask " + five + "ask d;");
+        String draws = "die d=0 to 7;die e=0 to 7;";
+        AnswerSlices x = Due.of(draws + "let a=" + five + "let b=" + five + "see 1;ask " + five + "ask d;");
         Due.due("13: none yet", x.count(11), 0);
         for (int call = 1; call <= 4; call++) {
             Due.board("14: not full yet", x, x.odds(1, 0), 1, 8);
