@@ -498,7 +498,7 @@ public final class AnswerSlices {
         /** A bit for each statement whose NAME stands in it; a bit for each DRAW that it is or has. */
         int uses;
         int draws;
-        /** How many RUNS one after another have the same value of this DRAW. */
+        /** How many RUNS one after another have the same value of this DRAW, as they are laid out now. */
         int stride;
 
         void start(int word, int begin, int from) {
@@ -622,13 +622,16 @@ public final class AnswerSlices {
             size++;
         }
 
-        /** The last DRAW changes first. */
-        void setStrides() {
+        /** How many RUNS the DRAWS that have a bit make, laid out so that the last of them changes first. */
+        int layRuns(int worked) {
+            if (size == 0) return 0;
             int stride = 1;
             for (int s = size - 1; s >= 0; s--) {
+                if ((worked >> s & 1) == 0) continue;
                 statements[s].stride = stride;
                 stride *= statements[s].choices();
             }
+            return stride;
         }
 
         /** A bit for each statement that a QUESTION NEEDS. */
@@ -789,7 +792,6 @@ public final class AnswerSlices {
                 going = parseStatement();
             }
             text.tokens = scanner.size;
-            text.setStrides();
             return going;
         }
 
@@ -1122,32 +1124,37 @@ public final class AnswerSlices {
             this.machine = machine;
         }
 
-        /** With the statements alone that have a bit, as if the one at place coin were a of its b. */
-        void work(Text text, int statements, int coin, int a) {
-            size = Math.min(text.runs, RUN_LIMIT);
+        /**
+         * As if the text had the statements alone that have a bit, its DRAWS too, and as if the one
+         * at place coin were a of its b.
+         */
+        void work(Text text, int worked, int coin, int a) {
+            size = Math.min(text.layRuns(worked), RUN_LIMIT);
             for (int run = 0; run < size; run++) {
                 cutBy[run] = NONE;
-                weights[run] = weigh(text, run, coin, a);
-                if (weights[run] > 0) workRun(text, run, statements);
+                weights[run] = weigh(text, worked, run, coin, a);
+                if (weights[run] > 0) workRun(text, worked, run);
             }
         }
 
-        private int weigh(Text text, int run, int coin, int a) {
+        private int weigh(Text text, int worked, int run, int coin, int a) {
             int weight = 1;
             for (int s = 0; s < text.size; s++) {
+                if ((worked >> s & 1) == 0) continue;
                 Statement draw = text.statements[s];
                 weight *= draw.weightIn(run, s == coin ? a : draw.first);
             }
             return weight;
         }
 
-        private void workRun(Text text, int run, int statements) {
+        private void workRun(Text text, int worked, int run) {
             for (int s = 0; s < text.size; s++) {
+                if ((worked >> s & 1) == 0) continue;
                 Statement now = text.statements[s];
                 if (now.isDraw()) {
                     machine.known[s] = now.drawnIn(run);
                     machine.knownFailed[s] = 0;
-                } else if ((statements >> s & 1) == 1) {
+                } else {
                     int v = machine.workExp(text, now);
                     if (now.word == SEE && (machine.failed != 0 || v == 0)) {
                         cutBy[run] = now.number;

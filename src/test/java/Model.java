@@ -515,6 +515,10 @@ final class Model {
             return;
         }
         Sentence s = draws.get(d);
+        if (!statements.contains(text.indexOf(s))) {
+            draw(d + 1, drawn, weight, statements, turned, a, runs);
+            return;
+        }
         int heads = d == turned ? a : s.a;
         int low = s.word == 0 ? 0 : s.a;
         int high = s.word == 0 ? 1 : s.a + s.b - 1;

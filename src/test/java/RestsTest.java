@@ -7,6 +7,7 @@ public final class RestsTest {
         needs();
         same();
         sameWorksTwice();
+        sameWorksNeededDraws();
         worth();
         sway();
         worst();
@@ -82,11 +83,32 @@ public final class RestsTest {
         Due.due("13: of a let that is not needed", x.count(11), 2);
         Due.due("13: of an ask that is not needed", x.count(12), 2);
         Due.due("25: same", x.same(1, 1), 1);
-        Due.due("13: of its own", x.count(12), 6);
+        Due.due("13: of its own, two runs and one", x.count(12), 5);
         Due.due("13: of the let", x.count(11), 4);
         AnswerSlices w = Due.of("coin a=1 of 2;see a;ask fail 1;");
         w.worth(0, 1, 0);
         Due.due("13: one run, then two", w.count(12), 3);
+    }
+
+    /** The second time, RUNS are those of the DRAWS that are needed. */
+    private static void sameWorksNeededDraws() {
+        AnswerSlices none = Due.of("coin a=1 of 2;ask 1/0;");
+        Due.due("25: same", none.same(0, 0), 1);
+        Due.due("13: two runs, then one", none.count(11), 3);
+        AnswerSlices some = Due.of("die d=1 to 3;coin a=1 of 5;die e=1 to 4;see a;ask d/0;ask (d=2)/(a-a);");
+        Due.due("25: of a die alone", some.same(0, 1), 1);
+        Due.due("13: 12 runs of two asks, then 3", some.count(11), 27);
+        Due.due("25: of a die and a coin", some.same(1, 1), 1);
+        Due.due("13: 12 runs of two asks, then 3 that are not cut", some.count(11), 54);
+        Due.asked("21: all draws again", some, some.shown(11, 2), 4);
+        Due.asked("21: all draws again", some, some.shown(4, 0), 2);
+        Due.due("13: RUNS of the text", some.count(5), 24);
+        AnswerSlices odd = Due.of("die e=1 to 2;die d=1 to 3;coin z=0 of 3;coin a=2 of 5;see d-a-2;ask d-a;ask e;");
+        for (int v = -1; v <= 3; v++) Due.due("25: same, " + v, odd.same(0, v), 1);
+        Due.due("25: same", odd.same(1, 2), 1);
+        AnswerSlices never = Due.of("coin a=0 of 2;coin b=2 of 2;ask b/0;");
+        Due.due("25: same", never.same(0, 1), 1);
+        Due.due("13: one run each time", never.count(11), 2);
     }
 
     private static void worth() {
