@@ -1,3 +1,6 @@
+import java.util.function.Supplier;
+import java.util.function.ToIntFunction;
+
 /** What the tests share: calls are compared with what is due, and the wrong ones printed and counted. */
 final class Due {
     private static int right = 0;
@@ -23,10 +26,24 @@ final class Due {
         if (wrong > 0) System.exit(1);
     }
 
-    /** Types a text. */
+    static void due(String call, String got, String want) {
+        if (got.equals(want)) {
+            right++;
+            return;
+        }
+        wrong++;
+        System.out.println(call + " answered\n" + got + "due is\n" + want);
+    }
+
+    /** Types a text, eight bytes a call: an object is used for at most 512 calls. */
     static void type(AnswerSlices x, String text) {
-        for (int i = 0; i < text.length(); i++) {
-            x.type(text.charAt(i), 1);
+        for (int at = 0; at < text.length(); at += 8) {
+            int n = Math.min(8, text.length() - at);
+            long w = 0;
+            for (int i = 0; i < n; i++) {
+                w = w << 8 | text.charAt(at + i);
+            }
+            x.type(w, n);
         }
     }
 
@@ -57,5 +74,58 @@ final class Due {
     static void asked(String call, AnswerSlices x, int got, long want) {
         due(call, got, 1);
         due(call + " asked()", x.asked(), want);
+    }
+
+    /** All that can be told of an object by calls that change nothing. */
+    static String state(AnswerSlices x) {
+        StringBuilder told = new StringBuilder(findings(x));
+        told.append("digest ").append(x.digest()).append(", asked ").append(x.asked());
+        told.append(", board ").append(x.above()).append(" of ").append(x.below());
+        told.append(", fault ").append(x.fault()).append(", counts");
+        for (int what = 0; what <= 6; what++) told.append(' ').append(x.count(what));
+        told.append(", tape ").append(x.count(13)).append(", columns");
+        for (int c = 0; c < 6; c++) {
+            for (int what = 0; what < 3; what++) told.append(' ').append(x.about(c, what));
+        }
+        told.append(", statements");
+        for (int s = 0; s < x.count(0); s++) {
+            for (int what = 0; what < 5; what++) told.append(' ').append(x.statement(s, what));
+        }
+        return told.append('\n').toString();
+    }
+
+    /** How often FINDINGS came in RUNS, by their codes. */
+    static String findings(AnswerSlices x) {
+        StringBuilder told = new StringBuilder("findings");
+        for (int f = 1; f <= 6; f++) told.append(' ').append(x.count(6 + f));
+        return told.append('\n').toString();
+    }
+
+    /** A call that is refused so, and by which nothing changes; on an object of its own. */
+    static void refused(String call, Supplier<AnswerSlices> made, ToIntFunction<AnswerSlices> answer, int want) {
+        AnswerSlices x = made.get();
+        String before = state(x);
+        due(call, answer.applyAsInt(x), want);
+        due(call + ": nothing changes:", state(x), before);
+    }
+
+    /** An object in whose RUNS so many FINDINGS (all of them NOUGHT) came, in few calls. */
+    static AnswerSlices withFindings(int n) {
+        AnswerSlices x = new AnswerSlices();
+        String one = "(try 1/0 else 0)";
+        String draws = "die d=0 to 7;die e=0 to 7;";
+        int left = bring(x, draws + "ask " + one + ("+" + one).repeat(14) + ";", 64 * 15, n);
+        left = bring(x, "ask " + one + ("+" + one).repeat(16) + ";", 17, left);
+        left = bring(x, "ask 1/0;", 1, left);
+        due("13: brought all", left, 0);
+        due("13: findings that came", x.count(11), n);
+        return x;
+    }
+
+    /** Reads a text that has so many FINDINGS a call and works it as often as fits: what is left of n. */
+    private static int bring(AnswerSlices x, String text, int each, int n) {
+        read(x, text);
+        for (int times = n / each; times > 0; times--) due("14: odds", x.odds(0, 1), 1);
+        return n % each;
     }
 }

@@ -79,6 +79,10 @@ public final class LanguageTest {
             fine("1: field " + f.getName(), Modifier.isPrivate(f.getModifiers()) != constant);
         }
         for (Class<?> inside : c.getDeclaredClasses()) {
+            for (Method m : inside.getDeclaredMethods()) {
+                boolean bears = FACE.startsWith(m.getName() + "(") || FACE.contains(" " + m.getName() + "(");
+                fine("1: no private " + m.getName(), !Modifier.isPrivate(m.getModifiers()) || !bears);
+            }
             fine("1: class " + inside.getName(), Modifier.isStatic(inside.getModifiers())
                 && !Modifier.isPublic(inside.getModifiers()) && !Modifier.isProtected(inside.getModifiers()));
         }

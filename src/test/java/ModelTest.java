@@ -5,13 +5,15 @@ import java.util.TreeMap;
 
 /** Runs of calls by chance (always the same), each answered by the class and by the Model alike. */
 public final class ModelTest {
-    private static final int RUNS = 500;
-    private static final int CALLS = 250;
+    private static final int RUNS = 3000;
+    /** An object is used for at most 512 calls; no step of a run has more than the rest. */
+    private static final int CALLS = 512 - 100;
     private final Random random;
     private final TextMaker maker;
     private final AnswerSlices x = new AnswerSlices();
     private final Model m = new Model();
     private final StringBuilder told = new StringBuilder();
+    private int calls = 0;
     private static final int[] FAULTS = new int[8];
     private static final Map<String, int[]> ANSWERS = new TreeMap<>();
 
@@ -23,7 +25,9 @@ public final class ModelTest {
     public static void main(String[] args) {
         for (int run = 0; run < RUNS && !Due.anyWrong(); run++) {
             ModelTest t = new ModelTest(run);
-            for (int call = 0; call < CALLS && !Due.anyWrong(); call++) t.step();
+            t.begin();
+            while (t.calls < CALLS && !Due.anyWrong()) t.step();
+            t.tellAll();
             if (Due.anyWrong()) System.out.println("run " + run + ":\n" + t.told);
         }
         System.out.println("sound reads, then faults by code: " + Arrays.toString(FAULTS));
@@ -50,29 +54,48 @@ public final class ModelTest {
     }
 
     private void due(String call, long got, long want) {
+        calls++;
         told.append(call).append(" -> ").append(got).append('\n');
         int[] times = ANSWERS.computeIfAbsent(call.substring(0, call.indexOf('(')), x -> new int[5]);
         times[want < -3 ? 4 : want < 0 ? (int) -want : 0]++;
         Due.due(call, got, want);
     }
 
+    /** Some data; and now and then so many FINDINGS that it is FULL soon. */
+    private void begin() {
+        for (int c = 0; c < 6; c++) {
+            int kind = random.nextInt(3) == 0 ? 4 : random.nextInt(8), n = random.nextInt(5);
+            due("row(" + c + ", " + kind + ", " + n + ")", x.row(c, kind, n), m.row(c, kind, n));
+        }
+        if (random.nextInt(6) > 0) return;
+        String one = "(try 1/0 else 0)";
+        typeAndRead("die d=0 to 7;die e=0 to 7;ask " + one + ("+" + one).repeat(14) + ";");
+        for (int n = 0; n < 3; n++) due("odds(0, 0)", x.odds(0, 0), m.odds(0, 0));
+    }
+
     private void step() {
         int pick = random.nextInt(100);
         if (pick < 20) {
             columnStep();
-        } else if (pick < 30) {
+        } else if (pick < 26) {
             readStep();
         } else if (pick < 40) {
             tellStep();
         } else {
             workStep();
+            due("above()", x.above(), m.above());
+            due("below()", x.below(), m.below());
         }
-        long h = m.digest();
-        if (random.nextInt(5) == 0) due("digest()", x.digest(), h);
+        if (random.nextInt(4) == 0) due("asked()", x.asked(), m.asked());
+        if (random.nextInt(40) == 0) tellAll();
+    }
+
+    private void tellAll() {
+        due("digest()", x.digest(), m.digest());
         due("asked()", x.asked(), m.asked());
         due("above()", x.above(), m.above());
         due("below()", x.below(), m.below());
-        for (int f = 1; f <= 6; f++) due("count(6 + " + f + ")", x.count(6 + f), m.count(6 + f));
+        for (int what = 0; what <= 13; what++) due("count(" + what + ")", x.count(what), m.count(what));
     }
 
     private void columnStep() {
@@ -98,12 +121,18 @@ public final class ModelTest {
 
     private void readStep() {
         if (random.nextInt(60) == 0) due("clear()", x.clear(), m.clear());
-        String text = maker.make();
-        for (int at = 0; at < text.length();) {
-            int n = Math.min(text.length() - at, 1 + random.nextInt(8));
+        typeAndRead(maker.make());
+    }
+
+    private void typeAndRead(String text) {
+        boolean full = false;
+        for (int at = 0; at < text.length() && !full;) {
+            int n = Math.min(text.length() - at, random.nextInt(3) > 0 ? 8 : 1 + random.nextInt(8));
             long w = random.nextLong();
             for (int i = 0; i < n; i++) w = w << 8 | text.charAt(at + i);
-            due("type(" + w + ", " + n + ")", x.type(w, n), m.type(w, n));
+            int has = m.type(w, n);
+            due("type(" + w + ", " + n + ")", x.type(w, n), has);
+            full = has == Model.FULL;
             at += n;
         }
         if (random.nextInt(30) == 0) {
