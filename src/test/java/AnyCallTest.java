@@ -10,8 +10,8 @@ import java.util.Random;
  * answers as the Model does. Texts are sound ones, sound ones with bytes changed, and any bytes.
  */
 public final class AnyCallTest {
-    private static final int RUNS = 1200;
-    private static final int CALLS = 400;
+    private static final int RUNS = 1600;
+    private static final int CALLS = 300;
     private static final int[] FAR = {Integer.MIN_VALUE, Integer.MIN_VALUE + 1, -100, -11, -3, -2, -1, 6, 7, 8, 9, 12, 13,
         14, 15, 16, 17, 20, 21, 63, 64, 65, 299, 300, 301, 3000, Integer.MAX_VALUE - 4, Integer.MAX_VALUE};
     private static final String BYTES = "abcz019;=+-*/<()[] \n?A\u00ff";

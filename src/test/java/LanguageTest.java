@@ -1,6 +1,7 @@
 import com.sun.source.tree.AssertTree;
 import com.sun.source.tree.ClassTree;
 import com.sun.source.tree.CompilationUnitTree;
+import com.sun.source.tree.ImportTree;
 import com.sun.source.tree.LambdaExpressionTree;
 import com.sun.source.tree.MemberReferenceTree;
 import com.sun.source.tree.MethodInvocationTree;
@@ -41,7 +42,10 @@ public final class LanguageTest {
         + "statement(int,int)int sway(int,int,int,int)int type(long,int)int value(int,int)int values(int)int "
         + "worst(int,int,int,int,int)int worth(int,int,int)int";
     private static final Set<String> LIBRARY = Set.of("java.lang.Math", "java.lang.Integer", "java.lang.Long",
-        "java.lang.System", "java.lang.String", "java.lang.Object");
+        "java.lang.System", "java.lang.String", "java.lang.StringBuilder", "java.lang.Object", "java.lang.Iterable",
+        "java.lang.Comparable", "java.util.ArrayList", "java.util.List", "java.util.Iterator", "java.util.Arrays");
+    private static final Set<String> IMPORTS = Set.of("java.util.ArrayList", "java.util.List", "java.util.Iterator",
+        "java.util.Arrays");
 
     public static void main(String[] args) throws IOException {
         face();
@@ -113,7 +117,10 @@ public final class LanguageTest {
         Rules(CompilationUnitTree unit, Trees trees) {
             this.unit = unit;
             this.trees = trees;
-            fine("no package, no imports", unit.getPackageName() == null && unit.getImports().isEmpty());
+            fine("no package", unit.getPackageName() == null);
+            for (ImportTree t : unit.getImports()) {
+                fine("4: " + t, IMPORTS.contains(t.getQualifiedIdentifier().toString()));
+            }
         }
 
         private boolean none(String rule) {
@@ -195,8 +202,9 @@ public final class LanguageTest {
                 calls.computeIfAbsent(method, x -> new TreeSet<>())
                     .add(called.getEnclosingElement().getSimpleName() + "." + called.getSimpleName());
             } else {
-                fine("4: " + owner + "." + called + " in " + method, LIBRARY.contains(owner)
-                    && !called.getSimpleName().toString().endsWith("Exact"));
+                String name = called.getSimpleName().toString();
+                fine("4: " + owner + "." + called + " in " + method, LIBRARY.contains(owner) && !name.endsWith("Exact")
+                    && (!owner.equals("java.lang.System") || name.equals("arraycopy")));
             }
             return super.visitMethodInvocation(t, v);
         }
