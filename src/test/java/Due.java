@@ -3,10 +3,28 @@ import java.util.function.ToIntFunction;
 
 /** What the tests share: calls are compared with what is due, and the wrong ones printed and counted. */
 final class Due {
+    private static final long MINUTES = 5;
     private static int right = 0;
     private static int wrong = 0;
 
+    static {
+        Thread watch = new Thread(Due::failIfItDoesNotEnd);
+        watch.setDaemon(true);
+        watch.start();
+    }
+
     private Due() { }
+
+    /** A call that does not end is a fault, too. */
+    private static void failIfItDoesNotEnd() {
+        try {
+            Thread.sleep(MINUTES * 60_000);
+        } catch (InterruptedException e) {
+            return;
+        }
+        System.out.println("a call did not end in " + MINUTES + " minutes");
+        Runtime.getRuntime().halt(1);
+    }
 
     static void due(String call, long got, long want) {
         if (got == want) {
