@@ -32,7 +32,12 @@ final class Due {
             return;
         }
         wrong++;
-        System.out.println(call + " answered " + got + ", due is " + want);
+        System.out.println(named(call) + " answered " + got + ", due is " + want);
+    }
+
+    /** A call that a test tells with a number ahead is one of the promise that has it. */
+    private static String named(String call) {
+        return Character.isDigit(call.charAt(0)) ? "promise " + call : call;
     }
 
     static boolean anyWrong() {
@@ -50,7 +55,7 @@ final class Due {
             return;
         }
         wrong++;
-        System.out.println(call + " answered\n" + got + "due is\n" + want);
+        System.out.println(named(call) + " answered\n" + got + "due is\n" + want);
     }
 
     /** Types a text, eight bytes a call: an object is used for at most 512 calls. */
@@ -85,13 +90,13 @@ final class Due {
     }
 
     static void onBoard(String call, AnswerSlices x, long above, long below) {
-        due(call + " above()", x.above(), above);
-        due(call + " below()", x.below(), below);
+        due(call + ", promise 29: above()", x.above(), above);
+        due(call + ", promise 30: below()", x.below(), below);
     }
 
     static void asked(String call, AnswerSlices x, int got, long want) {
         due(call, got, 1);
-        due(call + " asked()", x.asked(), want);
+        due(call + ", promise 7: asked()", x.asked(), want);
     }
 
     /** All that can be told of an object by calls that change nothing. */

@@ -54,7 +54,7 @@ public final class LanguageTest {
     }
 
     private static void fine(String rule, boolean holds) {
-        Due.due(rule, holds ? 1 : 0, 1);
+        Due.due("LANGUAGE.md " + rule, holds ? 1 : 0, 1);
     }
 
     private static void face() {
